@@ -214,7 +214,7 @@ public final class CryptHouse {
             return BAD;
         }
         digest.start(h, n);
-        digest.eat(rows[x]);
+        digest.eat(rows[x].b, 0, rows[x].n);
         out.n = digest.finish(out.b, 0);
         return give(out.n, to);
     }
@@ -234,7 +234,7 @@ public final class CryptHouse {
         if (!isUnder) {
             return WRONG;
         }
-        under.eat(rows[x]);
+        under.eat(rows[x].b, 0, rows[x].n);
         return 0;
     }
 
@@ -334,7 +334,7 @@ public final class CryptHouse {
     public int rsa(int kind, int h, int n, int e, int x, int more, int to) throws IllegalArgumentException {
         need(in(kind, 0, 7) && in(h, 0, 9) && isRow(to));
         needRows(n, e, x, more);
-        return give(numbers.rsa(kind, h, rows[n], rows[e], rows[x], rows[more], out), to);
+        return give(numbers.rsaOf(kind, h, rows[n], rows[e], rows[x], rows[more], out), to);
     }
 
     public int point(int curve, int op, int a, int b, int to) throws IllegalArgumentException {
@@ -397,7 +397,8 @@ public final class CryptHouse {
         return give(curves[curve].reusedSecret(h, rows[s], rows[x], rows[t], rows[y], out), to);
     }
 
-    public int hybridSeal(int aead, int key, int secret, int info, int ad, int x, int to) throws IllegalArgumentException {
+    public int hybridSeal(int aead, int key, int secret, int info, int ad, int x, int to)
+            throws IllegalArgumentException {
         need(in(aead, 0, 2) && isRow(secret) && isRow(info));
         needRows(key, ad, x, to);
         Row point = rows[key];
@@ -505,7 +506,8 @@ public final class CryptHouse {
         return give(edwards.nonces(rows[secret], rows[random], out), to);
     }
 
-    public int jointShare(int i, int secret, int nonces, int key, int list, int x, int to) throws IllegalArgumentException {
+    public int jointShare(int i, int secret, int nonces, int key, int list, int x, int to)
+            throws IllegalArgumentException {
         needRows(secret, nonces, key);
         needRows(list, x, to);
         Row own = rows[secret];
@@ -556,7 +558,7 @@ public final class CryptHouse {
     private void hashLeaf(Row x, int[] to, int at) {
         digest.start(Digest.SHA256, 0);
         digest.eatByte(0);
-        digest.eat(x);
+        digest.eat(x.b, 0, x.n);
         digest.finish(to, at);
     }
 
@@ -768,7 +770,7 @@ public final class CryptHouse {
     /** The trail goes on. */
     private void write(int act, int role, int place, int answer) {
         digest.start(Digest.SHA256, 0);
-        digest.eat(trailRow);
+        digest.eat(trailRow.b, 0, trailRow.n);
         digest.eatByte(act);
         digest.eatByte(role);
         digest.eatByte(place);
@@ -815,9 +817,26 @@ public final class CryptHouse {
         need(in(what, 0, 4) && in(role, 0, ROLES - 1));
         need(in(place, 0, PLACES - 1) && in(k, 0, PLACES - 1));
         needRows(x, to);
+        Row key = keys[place];
         int answer = refused(what, role, place);
         if (answer == 0) {
-            answer = acted(what, keys[place], k, rows[x]);
+            switch (what) {
+                case 0:
+                    answer = actSeal(key, rows[x]);
+                    break;
+                case 1:
+                    answer = actOpen(key, rows[x]);
+                    break;
+                case 2:
+                    answer = mac.hmac(Digest.SHA256, key, rows[x], out);
+                    break;
+                case 3:
+                    answer = actWrap(key, k);
+                    break;
+                default:
+                    answer = mac.hkdf(Digest.SHA256, key, none, rows[x], 32, out);
+                    break;
+            }
         }
         if (answer >= 0) {
             marks[place][USES]--;
@@ -844,21 +863,6 @@ public final class CryptHouse {
             return NO_USES;
         }
         return ones(mark[APPROVED]) < mark[QUORUM] ? NO_QUORUM : 0;
-    }
-
-    private int acted(int what, Row key, int k, Row x) {
-        switch (what) {
-            case 0:
-                return actSeal(key, x);
-            case 1:
-                return actOpen(key, x);
-            case 2:
-                return mac.hmac(Digest.SHA256, key, x, out);
-            case 3:
-                return actWrap(key, k);
-            default:
-                return mac.hkdf(Digest.SHA256, key, none, x, 32, out);
-        }
     }
 
     private int actSeal(Row key, Row x) {
@@ -1199,24 +1203,21 @@ public final class CryptHouse {
         }
 
         void eat(int[] from, int at, int len) {
-            int part = 0;
-            for (int done = 0; done < len; done += part) {
+            int done = 0;
+            for (int i = 0; i < len && done < len; i++) {
                 // BLAKE2 must know its last block, so a full one waits until more comes.
                 if (filled == rate) {
                     press(false);
                 }
-                part = Math.min(rate - filled, len - done);
+                int part = Math.min(rate - filled, len - done);
                 System.arraycopy(from, at + done, block, filled, part);
                 filled += part;
                 total += part;
+                done += part;
                 if (filled == rate && kind < BLAKE2B) {
                     press(false);
                 }
             }
-        }
-
-        void eat(Row r) {
-            eat(r.b, 0, r.n);
         }
 
         void eatByte(int v) {
@@ -1244,6 +1245,9 @@ public final class CryptHouse {
         }
 
         private void press(boolean last) {
+            if (kind <= 5) {
+                loadWords(rate / 4);
+            }
             if (kind == 0) {
                 sha1();
             } else if (kind <= SHA256) {
@@ -1399,7 +1403,6 @@ public final class CryptHouse {
         }
 
         private void sha1() {
-            loadWords(16);
             for (int i = 16; i < 80; i++) {
                 int x = w[i - 3] ^ w[i - 8] ^ w[i - 14] ^ w[i - 16];
                 w[i] = x << 1 | x >>> 31;
@@ -1435,7 +1438,6 @@ public final class CryptHouse {
         }
 
         private void sha256() {
-            loadWords(16);
             for (int i = 16; i < 64; i++) {
                 int x = w[i - 15];
                 int y = w[i - 2];
@@ -1475,7 +1477,6 @@ public final class CryptHouse {
         }
 
         private void sha512() {
-            loadWords(32);
             for (int i = 0; i < 16; i++) {
                 ww[i] = (long) w[2 * i] << 32 | w[2 * i + 1] & LOW;
             }
@@ -1647,10 +1648,6 @@ public final class CryptHouse {
             run.copy(inner);
         }
 
-        void restart() {
-            run.copy(inner);
-        }
-
         void eat(int[] from, int at, int len) {
             run.eat(from, at, len);
         }
@@ -1686,7 +1683,7 @@ public final class CryptHouse {
                 return BAD;
             }
             run.startKeyed(h, n, key);
-            run.eat(message);
+            run.eat(message.b, 0, message.n);
             out.n = run.finish(out.b, 0);
             return out.n;
         }
@@ -1703,9 +1700,9 @@ public final class CryptHouse {
             fed += 4 + leftEncode(0);
             fillUp(fed, rate);
             fed = leftEncode(rate) + leftEncode(8 * key.n);
-            run.eat(key);
+            run.eat(key.b, 0, key.n);
             fillUp(fed + key.n, rate);
-            run.eat(message);
+            run.eat(message.b, 0, message.n);
             rightEncode(8 * n);
             run.endInput();
             out.clear();
@@ -2110,7 +2107,7 @@ public final class CryptHouse {
             return untable[a] ^ (x >>> 8 | x << 24) ^ (y >>> 16 | y << 16) ^ (z >>> 24 | z << 8);
         }
 
-        private void aesThere(int[] from, int at, int[] to, int into) {
+        void aesThere(int[] from, int at, int[] to, int into) {
             int a = word(from, at) ^ keys[0];
             int b = word(from, at + 4) ^ keys[1];
             int c = word(from, at + 8) ^ keys[2];
@@ -2138,7 +2135,7 @@ public final class CryptHouse {
             return unbox[a >>> 24] << 24 | unbox[b >>> 16 & 255] << 16 | unbox[c >>> 8 & 255] << 8 | unbox[d & 255];
         }
 
-        private void aesBack(int[] from, int at, int[] to, int into) {
+        void aesBack(int[] from, int at, int[] to, int into) {
             int k = 4 * rounds;
             int a = word(from, at) ^ unkeys[k];
             int b = word(from, at + 4) ^ unkeys[k + 1];
@@ -2168,13 +2165,9 @@ public final class CryptHouse {
             return r;
         }
 
-        private static long pair(int[] a, int at) {
-            return (long) word(a, at) << 32 | word(a, at + 4) & LOW;
-        }
-
         /** The sixteen round keys of one of the up to three DES keys, eight times six bits each. */
         private void lockDes(int which, int[] key, int at) {
-            long chosen = moved(pair(key, at), 64, CHOICE);
+            long chosen = moved((long) word(key, at) << 32 | word(key, at + 4) & LOW, 64, CHOICE);
             int c = (int) (chosen >>> 28);
             int d = (int) chosen & 0xfffffff;
             for (int i = 0; i < 16; i++) {
@@ -2207,7 +2200,7 @@ public final class CryptHouse {
         }
 
         private void desBlock(boolean back, int[] from, int at, int[] to, int into) {
-            long v = moved(pair(from, at), 64, FIRST);
+            long v = moved((long) word(from, at) << 32 | word(from, at + 4) & LOW, 64, FIRST);
             if (kind == DES) {
                 v = des(v, 0, back);
             } else if (back) {
@@ -2220,7 +2213,7 @@ public final class CryptHouse {
             putWord(to, into + 4, (int) v);
         }
 
-        void there(int[] from, int at, int[] to, int into) {
+        private void there(int[] from, int at, int[] to, int into) {
             if (kind == AES) {
                 aesThere(from, at, to, into);
             } else {
@@ -2228,7 +2221,7 @@ public final class CryptHouse {
             }
         }
 
-        void back(int[] from, int at, int[] to, int into) {
+        private void back(int[] from, int at, int[] to, int into) {
             if (kind == AES) {
                 aesBack(from, at, to, into);
             } else {
@@ -2357,7 +2350,7 @@ public final class CryptHouse {
         void counted(int[] start, Row out, int from) {
             System.arraycopy(start, 0, chain, 0, 16);
             for (int at = from; at < out.n; at += 16) {
-                there(chain, 0, spare, 0);
+                aesThere(chain, 0, spare, 0);
                 mix(spare, 0, out.b, at, Math.min(16, out.n - at));
                 countUp(chain, 16);
             }
@@ -2370,7 +2363,7 @@ public final class CryptHouse {
                 return BAD;
             }
             lockAes(key.b, n, n);
-            there(iv.b, 0, tweak, 0);
+            aesThere(iv.b, 0, tweak, 0);
             lockAes(key.b, 0, n);
             out.take(x);
             int rest = x.n % 16;
@@ -2389,9 +2382,9 @@ public final class CryptHouse {
         private void tweaked(boolean back, int[] a, int at) {
             mix(tweak, 0, a, at, 16);
             if (back) {
-                back(a, at, a, at);
+                aesBack(a, at, a, at);
             } else {
-                there(a, at, a, at);
+                aesThere(a, at, a, at);
             }
             mix(tweak, 0, a, at, 16);
         }
@@ -2432,10 +2425,10 @@ public final class CryptHouse {
             int last = len == 0 ? 0 : (len - 1) / 16 * 16;
             for (int at = 0; at < last; at += 16) {
                 mix(message, at, chain, 0, 16);
-                there(chain, 0, chain, 0);
+                aesThere(chain, 0, chain, 0);
             }
             Arrays.fill(spare, 0);
-            there(spare, 0, spare, 0);
+            aesThere(spare, 0, spare, 0);
             doubled(spare);
             if (len - last < 16) {
                 doubled(spare);
@@ -2443,7 +2436,7 @@ public final class CryptHouse {
             }
             mix(message, last, chain, 0, len - last);
             mix(spare, 0, chain, 0, 16);
-            there(chain, 0, to, into);
+            aesThere(chain, 0, to, into);
         }
 
         /** A block as a polynomial times x, as CMAC and SIV take it. */
@@ -2543,9 +2536,10 @@ public final class CryptHouse {
                 return x.same(tag, 0, kind == 2 ? 0 : len, 16) ? out.n : WRONG;
             }
             if (kind == 2) {
-                System.arraycopy(out.b, 0, out.b, 16, len);
-                System.arraycopy(tag, 0, out.b, 0, 16);
-                out.n = len + 16;
+                text.take(out);
+                out.clear();
+                out.add(tag, 0, 16);
+                out.add(text.b, 0, len);
             } else {
                 out.add(tag, 0, 16);
             }
@@ -2607,7 +2601,7 @@ public final class CryptHouse {
                     counter[i] = carry & 255;
                     carry >>= 8;
                 }
-                cipher.there(counter, 0, mask, 0);
+                cipher.aesThere(counter, 0, mask, 0);
                 int part = Math.min(16, out.n - at);
                 for (int i = 0; i < part; i++) {
                     out.b[at + i] ^= mask[i];
@@ -2618,7 +2612,7 @@ public final class CryptHouse {
         private void gcm(boolean back, Row key, Row nonce, Row ad, Row out) {
             cipher.lockAes(key.b, 0, key.n);
             Arrays.fill(counter, 0);
-            cipher.there(counter, 0, mask, 0);
+            cipher.aesThere(counter, 0, mask, 0);
             h0 = eight(mask, 0);
             h1 = eight(mask, 8);
             y0 = 0;
@@ -2632,7 +2626,7 @@ public final class CryptHouse {
                 putEight(y0, counter, 0);
                 putEight(y1, counter, 8);
             }
-            cipher.there(counter, 0, tag, 0);
+            cipher.aesThere(counter, 0, tag, 0);
             long first = eight(tag, 0);
             long second = eight(tag, 8);
             int len = out.n;
@@ -2656,7 +2650,7 @@ public final class CryptHouse {
             Arrays.fill(counter, 0);
             counter[0] = 14 - nonce.n;
             System.arraycopy(nonce.b, 0, counter, 1, nonce.n);
-            cipher.there(counter, 0, start, 0);
+            cipher.aesThere(counter, 0, start, 0);
             counter[15] = 1;
             if (back) {
                 cipher.counted(counter, out, 0);
@@ -2666,7 +2660,7 @@ public final class CryptHouse {
             System.arraycopy(nonce.b, 0, tag, 1, nonce.n);
             tag[14] |= out.n >> 8;
             tag[15] |= out.n & 255;
-            cipher.there(tag, 0, tag, 0);
+            cipher.aesThere(tag, 0, tag, 0);
             if (ad.n > 0) {
                 text.clear();
                 text.number(ad.n, 2);
@@ -2688,7 +2682,7 @@ public final class CryptHouse {
                 for (int i = 0; i < part; i++) {
                     tag[i] ^= a[at + i];
                 }
-                cipher.there(tag, 0, tag, 0);
+                cipher.aesThere(tag, 0, tag, 0);
             }
         }
 
@@ -2744,7 +2738,7 @@ public final class CryptHouse {
                 Arrays.fill(counter, 0);
                 counter[0] = i;
                 System.arraycopy(nonce.b, 0, counter, 4, 12);
-                cipher.there(counter, 0, mask, 0);
+                cipher.aesThere(counter, 0, mask, 0);
                 System.arraycopy(mask, 0, oneTime, 8 * i, 8);
             }
             for (int i = 0; i < 16; i++) {
@@ -2772,7 +2766,7 @@ public final class CryptHouse {
                 tag[i] = mask[15 - i] ^ (i < 12 ? nonce.b[i] : 0);
             }
             tag[15] &= 127;
-            cipher.there(tag, 0, tag, 0);
+            cipher.aesThere(tag, 0, tag, 0);
             if (!back) {
                 littleStream(out);
             }
@@ -2783,7 +2777,7 @@ public final class CryptHouse {
             System.arraycopy(tag, 0, counter, 0, 16);
             counter[15] |= 128;
             for (int at = 0; at < out.n; at += 16) {
-                cipher.there(counter, 0, mask, 0);
+                cipher.aesThere(counter, 0, mask, 0);
                 int part = Math.min(16, out.n - at);
                 for (int i = 0; i < part; i++) {
                     out.b[at + i] ^= mask[i];
@@ -3014,7 +3008,7 @@ public final class CryptHouse {
                 putEight(0xa65959a600000000L | x.n, out.b, 0);
             }
             if (whole == 8) {
-                cipher.there(out.b, 0, out.b, 0);
+                cipher.aesThere(out.b, 0, out.b, 0);
             } else {
                 wrapRounds(out, whole / 8);
             }
@@ -3028,7 +3022,7 @@ public final class CryptHouse {
                 for (int i = 1; i <= n; i++) {
                     t++;
                     System.arraycopy(out.b, 8 * i, state, 8, 8);
-                    cipher.there(state, 0, state, 0);
+                    cipher.aesThere(state, 0, state, 0);
                     System.arraycopy(state, 8, out.b, 8 * i, 8);
                     putEight(eight(state, 0) ^ t, state, 0);
                 }
@@ -3040,7 +3034,7 @@ public final class CryptHouse {
             int n = x.n / 8 - 1;
             out.clear();
             if (n == 1) {
-                cipher.back(x.b, 0, state, 0);
+                cipher.aesBack(x.b, 0, state, 0);
                 out.add(state, 8, 8);
             } else {
                 unwrapRounds(x, n, out);
@@ -3070,7 +3064,7 @@ public final class CryptHouse {
                 for (int i = n; i >= 1; i--) {
                     putEight(eight(state, 0) ^ t, state, 0);
                     System.arraycopy(out.b, 8 * i - 8, state, 8, 8);
-                    cipher.back(state, 0, state, 0);
+                    cipher.aesBack(state, 0, state, 0);
                     System.arraycopy(state, 8, out.b, 8 * i - 8, 8);
                     t--;
                 }
@@ -3172,7 +3166,7 @@ public final class CryptHouse {
             chained(text.b, text.n);
             System.arraycopy(tag, 0, value, 0, 16);
             tag[15] ^= 1;
-            cipher.there(tag, 0, value, 16);
+            cipher.aesThere(tag, 0, value, 16);
         }
 
         /** The digits and the number in value, added or taken away, as m digits in sum. */
@@ -3345,7 +3339,7 @@ public final class CryptHouse {
         }
 
         /** Answers the carry; the sum has as many limbs. */
-        static long sum(long[] a, long[] b, long[] to, int n) {
+        static long added(long[] a, long[] b, long[] to, int n) {
             long carry = 0;
             for (int i = 0; i < n; i++) {
                 carry += a[i] + b[i];
@@ -3572,14 +3566,14 @@ public final class CryptHouse {
         }
 
         void plus(long[] a, long[] b, long[] to) {
-            if (sum(a, b, to, n) != 0 || compared(to, m, n) >= 0) {
+            if (added(a, b, to, n) != 0 || compared(to, m, n) >= 0) {
                 less(to, m, to, n);
             }
         }
 
         void minus(long[] a, long[] b, long[] to) {
             if (less(a, b, to, n) != 0) {
-                sum(to, m, to, n);
+                added(to, m, to, n);
             }
         }
 
@@ -3683,7 +3677,7 @@ public final class CryptHouse {
         private int plain(int op, Row out) {
             switch (op) {
                 case 0:
-                    Ring.sum(a, b, a, MANY + 1);
+                    Ring.added(a, b, a, MANY + 1);
                     return give(a, MANY + 1, out);
                 case 1:
                     if (Ring.compared(a, b, MANY) < 0) {
@@ -4018,7 +4012,7 @@ public final class CryptHouse {
 
         /** The rest of 2 * v by l: whether l was taken away. */
         private boolean doubleByPrime() {
-            Ring.sum(v, v, v, MANY);
+            Ring.added(v, v, v, MANY);
             if (Ring.compared(v, b, MANY) < 0) {
                 return false;
             }
@@ -4103,7 +4097,7 @@ public final class CryptHouse {
         }
 
         /** One of the eight kinds of RSA. */
-        int rsa(int kind, int h, Row n, Row e, Row text, Row more, Row out) {
+        int rsaOf(int kind, int h, Row n, Row e, Row text, Row more, Row out) {
             int k = n.width();
             if (k < 64 || !load(n, m) || !load(e, b)) {
                 return BAD;
@@ -4709,7 +4703,7 @@ public final class CryptHouse {
         /** The highest bytes of a text's hash as a number modulo q. */
         private void hashed(int h, Row x, long[] to) {
             digest.start(h, 0);
-            digest.eat(x);
+            digest.eat(x.b, 0, x.n);
             int size = digest.finish(sum, 0);
             Ring.load(sum, 0, Math.min(size, w), k[5]);
             q.rest(k[5], n, to);
@@ -4887,15 +4881,15 @@ public final class CryptHouse {
             out.clear();
             pushNumber(k[0], out);
             tagged("BIP0340/aux");
-            digest.eat(help);
+            digest.eat(help.b, 0, help.n);
             digest.finish(sum, 0);
             for (int i = 0; i < 32; i++) {
                 out.b[i] ^= sum[i];
             }
             tagged("BIP0340/nonce");
-            digest.eat(out);
-            digest.eat(made);
-            digest.eat(x);
+            digest.eat(out.b, 0, out.n);
+            digest.eat(made.b, 0, made.n);
+            digest.eat(x.b, 0, x.n);
             taggedEnd(k[1]);
             if (Ring.isZero(k[1], n)) {
                 return WRONG;
@@ -4904,9 +4898,9 @@ public final class CryptHouse {
             out.clear();
             pushNumber(px, out);
             tagged("BIP0340/challenge");
-            digest.eat(out);
-            digest.eat(made);
-            digest.eat(x);
+            digest.eat(out.b, 0, out.n);
+            digest.eat(made.b, 0, made.n);
+            digest.eat(x.b, 0, x.n);
             taggedEnd(k[2]);
             q.times(k[2], k[0], k[3]);
             q.plus(k[3], k[1], k[3]);
@@ -4923,8 +4917,8 @@ public final class CryptHouse {
             }
             tagged("BIP0340/challenge");
             digest.eat(signature.b, 0, 32);
-            digest.eat(key);
-            digest.eat(x);
+            digest.eat(key.b, 0, key.n);
+            digest.eat(x.b, 0, x.n);
             taggedEnd(k[2]);
             times(k[1], base, first);
             turn(second);
@@ -5120,7 +5114,7 @@ public final class CryptHouse {
 
         private void challenge(long[] to) {
             digest.start(Digest.SHA256, 0);
-            digest.eat(text);
+            digest.eat(text.b, 0, text.n);
             digest.finish(sum, 0);
             Ring.load(sum, 0, 32, k[7]);
             curve.q.rest(k[7], curve.n, to);
@@ -5549,7 +5543,7 @@ public final class CryptHouse {
         /** The secret number of 32 bytes in k[0]; the second half of their hash stays in sum. */
         private void secretNumber(Row secret) {
             digest.start(Digest.SHA512, 0);
-            digest.eat(secret);
+            digest.eat(secret.b, 0, secret.n);
             digest.finish(sum, 0);
             Ring.loadLittle(sum, 0, 32, k[0]);
             k[0][0] &= ~7L;
@@ -5577,15 +5571,15 @@ public final class CryptHouse {
             encode(first, prefix, 32);
             digest.start(Digest.SHA512, 0);
             digest.eat(prefix, 0, 32);
-            digest.eat(x);
+            digest.eat(x.b, 0, x.n);
             hashEnd(k[1]);
             times(k[1], base, first);
             out.clear();
             pushPoint(first, out);
             digest.start(Digest.SHA512, 0);
-            digest.eat(out);
+            digest.eat(out.b, 0, out.n);
             digest.eat(prefix, 32, 32);
-            digest.eat(x);
+            digest.eat(x.b, 0, x.n);
             hashEnd(k[2]);
             l.times(k[2], k[0], k[3]);
             l.plus(k[3], k[1], k[3]);
@@ -5607,8 +5601,8 @@ public final class CryptHouse {
             }
             digest.start(Digest.SHA512, 0);
             digest.eat(signature.b, 0, 32);
-            digest.eat(key);
-            digest.eat(x);
+            digest.eat(key.b, 0, key.n);
+            digest.eat(x.b, 0, x.n);
             hashEnd(k[1]);
             times(k[1], first, first);
             plus(first, second, first);
@@ -5635,7 +5629,7 @@ public final class CryptHouse {
             for (int i = 0; i < 2; i++) {
                 startJoint("nonce");
                 digest.eat(random.b, 32 * i, 32);
-                digest.eat(secret);
+                digest.eat(secret.b, 0, secret.n);
                 hashEnd(k[i]);
                 pushNumber(k[i], out);
             }
@@ -5673,7 +5667,7 @@ public final class CryptHouse {
         private void fillPrefix(Row key, Row list, Row x) {
             System.arraycopy(key.b, 0, prefix, 0, 32);
             startJoint("msg");
-            digest.eat(x);
+            digest.eat(x.b, 0, x.n);
             digest.finish(prefix, 32);
             startJoint("com");
             for (int at = 0; at < list.n; at += 65) {
@@ -5712,8 +5706,8 @@ public final class CryptHouse {
             encode(third, code, 0);
             digest.start(Digest.SHA512, 0);
             digest.eat(code, 0, 32);
-            digest.eat(key);
-            digest.eat(x);
+            digest.eat(key.b, 0, key.n);
+            digest.eat(x.b, 0, x.n);
             hashEnd(k[2]);
             return true;
         }
@@ -6041,7 +6035,7 @@ public final class CryptHouse {
             opening.n = 384 * n;
             opening.add(sealing.b, 0, sealing.n);
             digest.start(Digest.SHA3_256, 0);
-            digest.eat(sealing);
+            digest.eat(sealing.b, 0, sealing.n);
             digest.finish(seed, 0);
             opening.add(seed, 0, 32);
             opening.add(seeds.b, 32, 32);
@@ -6154,7 +6148,7 @@ public final class CryptHouse {
             } else {
                 digest.start(Digest.SHAKE256, 32);
                 digest.eat(key.b, key.n - 32, 32);
-                digest.eat(capsule);
+                digest.eat(capsule.b, 0, capsule.n);
                 digest.finish(packed, 0);
                 out.add(packed, 0, 32);
             }
@@ -6344,7 +6338,7 @@ public final class CryptHouse {
             }
             choose(kind);
             digest.start(Digest.SHAKE256, 128);
-            digest.eat(from);
+            digest.eat(from.b, 0, from.n);
             digest.eatByte(k);
             digest.eatByte(l);
             digest.finish(seed, 0);
@@ -6368,7 +6362,7 @@ public final class CryptHouse {
                 splitKey(i, open, secret);
             }
             digest.start(Digest.SHAKE256, 64);
-            digest.eat(open);
+            digest.eat(open.b, 0, open.n);
             digest.finish(secret.b, 64);
             return open.n;
         }
@@ -6395,8 +6389,8 @@ public final class CryptHouse {
             digest.eat(keyHash, at, 64);
             digest.eatByte(0);
             digest.eatByte(context.n);
-            digest.eat(context);
-            digest.eat(x);
+            digest.eat(context.b, 0, context.n);
+            digest.eat(x.b, 0, x.n);
             digest.finish(message, 0);
         }
 
@@ -6423,7 +6417,7 @@ public final class CryptHouse {
             messageHash(secret.b, 64, x, context);
             digest.start(Digest.SHAKE256, 64);
             digest.eat(secret.b, 32, 32);
-            digest.eat(help);
+            digest.eat(help.b, 0, help.n);
             digest.eat(message, 0, 64);
             digest.finish(seed, 0);
             for (int i = 0; i < TRIES; i++) {
@@ -6621,7 +6615,7 @@ public final class CryptHouse {
             }
             matrix(open.b, 0);
             digest.start(Digest.SHAKE256, 64);
-            digest.eat(open);
+            digest.eat(open.b, 0, open.n);
             digest.finish(seed, 0);
             messageHash(seed, 0, x, context);
             ball(kind, signature.b, 0);
