@@ -3539,8 +3539,8 @@ public final class CryptHouse {
                 under >>= BITS;
             }
             // Below the modulus already: what was taken away comes back.
-            if (over + under < 0) {
-                System.arraycopy(t, 0, to, 0, n);
+            for (int i = 0; i < n && over + under < 0; i++) {
+                to[i] = t[i];
             }
         }
 
@@ -4138,7 +4138,7 @@ public final class CryptHouse {
         /** Mixes MGF1 of a part of code into another part of it. */
         private void mask(int h, int at, int len, int into, int count) {
             int size = Digest.sizeOf(h);
-            for (int i = 0; i * size < count; i++) {
+            for (int i = 0; i < count && i * size < count; i++) {
                 digest.start(h, 0);
                 digest.eat(code, at, len);
                 digest.eatByte(0);
