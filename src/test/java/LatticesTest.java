@@ -8,6 +8,17 @@ public final class LatticesTest {
     private static final int[] OPEN = {1312, 1952, 2592};
     private static final int[] SECRET = {2560, 4032, 4896};
     private static final int[] SIGNATURE = {2420, 3309, 4627};
+    /** What a plain model of FIPS 203 and FIPS 204, which agrees with OpenSSL's keys and signatures, hashes of many. */
+    private static final String[] ALL_CAPSULES = {
+        "7c0b1518048e13793890e02cd53889a7ff185dad612be233c534a204935fa62b",
+        "602bd6767f8694de4f30844fa88538aa1354297518f6fd3ee9492b514cdda81b",
+        "9295d3e2dcec209ba806797fa1e2cc499dc61165986072053f2a9ed49c90c8b3"
+    };
+    private static final String[] ALL_SIGNATURES = {
+        "1ebd5f964632d7b9fd05f8619d8c37550685c61a0cdcf482b50c636a590ec18e",
+        "075fc5738e8b742912c38345064fe801986844e6dea1ffe01a9ed02ff7e20853",
+        "71001e430c4e988f66d5380f8e45438444452bbdc652e50bb427f71c502e7b8d"
+    };
     private static final Random RANDOM = new Random(5);
     private static final CryptHouse H = new CryptHouse();
 
@@ -17,8 +28,46 @@ public final class LatticesTest {
             badCapsules(kind);
             signatures(kind);
             badSignatures(kind);
+            manyCapsules(kind);
+            manySignatures(kind);
         }
         Check.end();
+    }
+
+    private static byte[] told(int kind, int i, int part) {
+        byte[] b = {(byte) kind, (byte) i, (byte) part};
+        return Check.sha256(b);
+    }
+
+    private static void manyCapsules(int kind) {
+        byte[] all = new byte[32];
+        for (int i = 0; i < 150; i++) {
+            Check.row(H, 0, Check.join(told(kind, i, 0), told(kind, i, 1)));
+            H.capsuleKeys(kind, 0, 1, 2);
+            Check.row(H, 3, told(kind, i, 2));
+            H.capsule(kind, 1, 3, 4, 5);
+            byte[] other = Check.get(H, 4);
+            other[0] ^= 1;
+            Check.row(H, 6, other);
+            H.uncapsule(kind, 2, 6, 6);
+            all = Check.sha256(all, Check.get(H, 1), Check.get(H, 2), Check.get(H, 4), Check.get(H, 5), Check.get(H, 6));
+        }
+        Check.due("many capsules", Check.hex(all), ALL_CAPSULES[kind]);
+    }
+
+    private static void manySignatures(int kind) {
+        byte[] all = new byte[32];
+        H.fill(0, 0, 4);
+        H.fill(32, 0, 5);
+        for (int i = 0; i < 30; i++) {
+            Check.row(H, 0, told(kind, i, 3));
+            H.latticeKeys(kind, 0, 1, 2);
+            byte[] x = {(byte) kind, (byte) i};
+            Check.row(H, 3, x);
+            H.latticeSign(kind, 2, 3, 4, 5, 6);
+            all = Check.sha256(all, Check.get(H, 1), Check.get(H, 2), Check.get(H, 6));
+        }
+        Check.due("many signatures", Check.hex(all), ALL_SIGNATURES[kind]);
     }
 
     private static byte[] some(int n) {

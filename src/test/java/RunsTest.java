@@ -32,7 +32,8 @@ public final class RunsTest {
         Class<?>[] types = Check.method(words[0]).getParameterTypes();
         Object[] given = new Object[types.length];
         for (int i = 0; i < types.length; i++) {
-            given[i] = types[i] == long.class ? (Object) Long.valueOf(words[i + 1]) : (Object) Integer.valueOf(words[i + 1]);
+            boolean wide = types[i] == long.class;
+            given[i] = wide ? (Object) Long.valueOf(words[i + 1]) : (Object) Integer.valueOf(words[i + 1]);
         }
         String name = "line " + line + ": " + String.join(" ", words);
         Check.due(name, Check.call(h, words[0], given), words[words.length - 1]);
