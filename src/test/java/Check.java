@@ -160,8 +160,9 @@ final class Check {
         due(name + " left its row", hex(get(h, TO)), hex(mark));
     }
 
-    /** As run, of a call that writes: its answer is the size of what is due. */
+    /** As run, of a call that writes: its answer is the size of what is due, and the row holds nothing else. */
     static void gives(CryptHouse h, String want, String name, Object... args) {
+        row(h, TO, "5e5e5e");
         due(name + Arrays.deepToString(args), run(h, name, args), String.valueOf(want.length() / 2));
         due(name + " wrote", text(h, TO), want);
     }

@@ -27,44 +27,75 @@ public final class FaceTest {
     public static void main(String[] args) {
         for (String call : CALLS) {
             throwsAhead(call.split(" "));
+            allowedEnds(call.split(" "));
         }
-        kindsWithoutHash();
+        signaturesHash();
         face();
         Check.end();
     }
 
+    private static Object[] zeros(String[] call) {
+        Object[] given = new Object[call.length - 1];
+        // The numbers are refused ones (-1), so that an exception must come ahead of the refusals.
+        for (int k = 1; k < call.length; k++) {
+            given[k - 1] = call[k].equals("n") ? -1 : 0;
+        }
+        return given;
+    }
+
+    /** "IllegalArgumentException for a row, a curve, a kind, an op, a place, a role that there is none of, ahead of all." */
     private static void throwsAhead(String[] call) {
-        CryptHouse h = new CryptHouse();
+        Twin t = new Twin().told("that there is none of, ahead of all");
+        t.both("feed", 5, 1L, 2L, 3L);
         for (int i = 1; i < call.length; i++) {
             if (call[i].equals("n") || call[i].equals("b")) {
                 continue;
             }
             int many = call[i].equals("r") ? 24 : Integer.parseInt(call[i]);
             for (int bad : new int[] {-1, many, Integer.MIN_VALUE, Integer.MAX_VALUE}) {
-                Object[] given = new Object[call.length - 1];
-                // The numbers are refused ones (-1), so that the exception must come ahead of the refusals.
-                for (int k = 1; k < call.length; k++) {
-                    given[k - 1] = k == i ? bad : call[k].equals("n") ? -1 : 0;
-                }
-                Check.due(call[0] + Arrays.toString(given), Check.call(h, call[0], given),
-                    "throws.IllegalArgumentException");
+                Object[] given = zeros(call);
+                given[i - 1] = bad;
+                t.thrown(call[0], given);
             }
         }
-        for (int row = 0; row < 24; row++) {
-            Check.due(call[0] + " left row " + row, h.size(row), 0);
-        }
-        h.trail(0);
-        Check.due(call[0] + " left the trail", Check.hex(Check.get(h, 0)), "00".repeat(32));
-        Check.due(call[0] + " left the log", h.count(2), 0);
+        t.end();
     }
 
-    /** Of signatures 3 and 4 the hash is not looked at. */
-    private static void kindsWithoutHash() {
-        CryptHouse h = new CryptHouse();
-        for (int kind = 3; kind <= 4; kind++) {
-            Check.due("sign " + kind, Check.call(h, "sign", kind, 99, 0, 1, 2, 3), "-1");
-            Check.due("verify " + kind, Check.call(h, "verify", kind, -5, 0, 1, 2), "0");
+    /** The first and the last that there is of each argument do not throw. */
+    private static void allowedEnds(String[] call) {
+        for (int i = 1; i < call.length; i++) {
+            if (call[i].equals("n") || call[i].equals("b")) {
+                continue;
+            }
+            int many = call[i].equals("r") ? 24 : Integer.parseInt(call[i]);
+            for (int v = 0; v < many; v++) {
+                Object[] given = zeros(call);
+                given[i - 1] = v;
+                String answer = Check.call(new CryptHouse(), call[0], given);
+                Check.due(call[0] + Arrays.toString(given), answer.startsWith("throws"), false);
+            }
         }
+    }
+
+    /** "h is looked at by kinds 0 .. 2 alone: others than 0 .. 9 throw there". */
+    private static void signaturesHash() {
+        Twin t = new Twin().told("h is looked at by kinds 0 .. 2 alone: others than 0 .. 9 throw there");
+        for (int kind = 0; kind < 5; kind++) {
+            for (int h : new int[] {-1, 10, Integer.MIN_VALUE, Integer.MAX_VALUE}) {
+                if (kind < 3) {
+                    t.thrown("sign", kind, h, 0, 1, 2, 3);
+                    t.thrown("verify", kind, h, 0, 1, 2);
+                } else {
+                    t.leaves(-1, "sign", kind, h, 0, 1, 2, 3);
+                    t.leaves(0, "verify", kind, h, 0, 1, 2);
+                }
+            }
+            for (int h = 0; h < 10; h++) {
+                t.leaves(-1, "sign", kind, h, 0, 1, 2, 3);
+                t.leaves(0, "verify", kind, h, 0, 1, 2);
+            }
+        }
+        t.end();
     }
 
     private static void face() {
