@@ -276,6 +276,7 @@ public final class BoundsBoxTest {
         put(9, some(1), 1, 1, 2, 1);
         Check.due("nobody approved the new key", h.look(9, 5), 0);
         Check.due("its size", h.look(9, 0), 1);
+        Check.due("a key of one byte is one", h.count(3), 1);
     }
 
     /** "refused by the first of (of the place, not of k): -4 .. -5 .. -6 .. -7 .. -8 .. ; then as told, with its own refusals". */

@@ -457,6 +457,16 @@ public final class BoundsCurvesTest {
                 }
             }
         }
+        T.told("of texts x and y");
+        for (int n : new int[] {0, 1, 8192}) {
+            String x = Check.hex(Examples.some(n, 1));
+            String y = Check.hex(Examples.some(8192 - n, 2));
+            BigInteger nonce = hashed(curve, 4, x).subtract(hashed(curve, 4, y)).mod(q);
+            BigInteger secret = nonce.multiply(TWO).subtract(hashed(curve, 4, x)).mod(q);
+            T.gives(fixed(secret, curve), "reused", curve, 4, good, x, other, y);
+            String signed = T.made(2 * w, "sign", curve, 4, fixed(TWO, curve), x, "");
+            T.leaves(1, "verify", curve, 4, Affine.longForm(curve, Affine.times(curve, TWO, Affine.G[curve])), x, signed);
+        }
         T.told("both have the same r");
         T.leaves(-3, "reused", curve, 2, good, "61", fixed(TWO, curve) + fixed(ONE, curve), "62");
         for (int bit = 0; bit < 8 * w; bit += 17) {

@@ -151,6 +151,7 @@ public final class BoundsEdwardsTest {
             }
         }
         Check.due("all 0s", zeros >= 42, true);
+        oneByte();
         T.told("32 bytes each (else -1)");
         String nine = "09" + "00".repeat(31);
         for (int n : new int[] {0, 1, 31, 33, 64, 8192}) {
@@ -162,6 +163,21 @@ public final class BoundsEdwardsTest {
         for (String secret : new String[] {some(32), "00".repeat(32), "ff".repeat(32), "07" + "00".repeat(30) + "80"}) {
             T.gives(Twisted.exchanged(secret, nine), "key", 5, secret);
             T.gives(Twisted.exchanged(secret, nine), "agree", 3, secret, nine);
+        }
+    }
+
+    /** What is not all 0s, but for one byte: it is made backwards, by the secret's inverse. */
+    private static void oneByte() {
+        for (int at = 0; at < 32; at++) {
+            BigInteger u = null;
+            for (int v = 1; v < 128 && u == null; v++) {
+                BigInteger told = BigInteger.valueOf(v).shiftLeft(8 * at);
+                boolean is = told.compareTo(P) < 0 && Twisted.ladder(L.add(ONE), told).equals(told);
+                u = is ? told : null;
+            }
+            String secret = some(32);
+            String point = Twisted.little(Twisted.ladder(Twisted.clamped(secret).modInverse(L), u));
+            T.gives(Twisted.little(u), "agree", 3, secret, point);
         }
     }
 
@@ -309,6 +325,39 @@ public final class BoundsEdwardsTest {
         T.gives(x, "hybridOpen", 0, secret, info, "436f756e742d30", sealed);
     }
 
+    private static byte[] hmac(byte[] key, byte[]... parts) {
+        try {
+            return BoundsHashesTest.hmac(2, key, Check.join(parts));
+        } catch (Exception e) {
+            throw new IllegalStateException(e);
+        }
+    }
+
+    private static byte[] labeled(int aead, String label, byte[] x) {
+        byte[] suite = aead < 0 ? Check.bytes("4b454d0020") : Check.bytes("48504b45002000010" + "00" + (aead + 1));
+        return Check.join("HPKE-v1".getBytes(), suite, label.getBytes(), x);
+    }
+
+    private static byte[] expanded(int aead, byte[] key, String label, byte[] info, int n) {
+        byte[] told = Check.join(new byte[] {0, (byte) n}, labeled(aead, label, info));
+        return java.util.Arrays.copyOf(hmac(key, told, new byte[] {1}), n);
+    }
+
+    /** RFC 9180's base mode, one message, as it is told there. */
+    private static String sealed(int aead, String key, String own, String info, String ad, String x) {
+        String enc = Twisted.exchanged(own, "09" + "00".repeat(31));
+        byte[] shared = hmac(new byte[0], labeled(-1, "eae_prk", Check.bytes(Twisted.exchanged(own, key))));
+        shared = expanded(-1, shared, "shared_secret", Check.bytes(enc + key), 32);
+        byte[] context = Check.join(new byte[1], hmac(new byte[0], labeled(aead, "psk_id_hash", new byte[0])),
+            hmac(new byte[0], labeled(aead, "info_hash", Check.bytes(info))));
+        byte[] secret = hmac(shared, labeled(aead, "secret", new byte[0]));
+        byte[] real = expanded(aead, secret, "key", context, aead == 0 ? 16 : 32);
+        byte[] nonce = expanded(aead, secret, "base_nonce", context, 12);
+        CryptHouse h = new CryptHouse();
+        Check.run(h, "seal", aead == 2 ? 4 : 0, real, nonce, ad, x);
+        return enc + Check.text(h, Check.TO);
+    }
+
     /** "what comes is enc, then what is sealed (ad as told; -1 sizes; ..)"; "-2 more than 8192 bytes would come". */
     private static void hybridLimits() {
         String secret = some(32);
@@ -335,6 +384,17 @@ public final class BoundsEdwardsTest {
             T.gives(x, "hybridOpen", aead, secret, full, full, most);
             T.leaves(-3, "hybridOpen", aead, secret, full, full.substring(2), most);
             T.leaves(-3, "hybridOpen", aead, secret, full.substring(2), full, most);
+            T.leaves(-3, "hybridOpen", aead, secret, full.substring(0, 16382), full, most);
+            T.leaves(-3, "hybridOpen", aead, secret, full, full.substring(0, 16382), most);
+            byte[] other8192 = Check.bytes(full);
+            other8192[8191] ^= 1;
+            T.leaves(-3, "hybridOpen", aead, secret, other8192, full, most);
+            T.leaves(-3, "hybridOpen", aead, secret, full, other8192, most);
+            for (int n : new int[] {0, 1, 100, 8144}) {
+                String text = full.substring(0, 2 * n);
+                String info = full.substring(2 * n);
+                T.gives(sealed(aead, key, own, info, text, text), "hybridSeal", aead, key, own, info, text, text);
+            }
             for (int n : new int[] {8145, 8146, 8192}) {
                 T.leaves(-2, "hybridSeal", aead, key, own, "", "", "00".repeat(n));
                 T.leaves(-2, "hybridSeal", aead, "00".repeat(32), own, "", "", "00".repeat(n));
@@ -369,6 +429,8 @@ public final class BoundsEdwardsTest {
                 T.leaves(-3, "hybridSeal", aead, key, some(32), "", "", "61");
                 T.leaves(-3, "hybridSeal", aead, key, some(32), "", "", "00".repeat(8144));
                 T.leaves(-3, "hybridOpen", aead, some(32), "", "", key + "00".repeat(16));
+                T.leaves(-1, "hybridOpen", aead, some(32), "", "", key + "00".repeat(15));
+                T.leaves(-1, "hybridOpen", aead, some(31), "", "", key + "00".repeat(16));
             }
         }
     }

@@ -28,7 +28,8 @@ public final class BoundsLatticesTest {
             verifySizes(kind);
             contexts(kind);
             hintForms(kind);
-            farSignatures(kind);
+            toldSignatures(kind);
+            newObjects(kind);
         }
         edgeSignatures();
         lastTry();
@@ -347,16 +348,40 @@ public final class BoundsLatticesTest {
         return b;
     }
 
-    /** A signature that would be right, but for a z that reaches its bound. */
-    private static void farSignatures(int kind) {
-        byte[] open = dsaKeys(kind)[0];
+    /** A signature that would be right, but for a z that reaches its bound; and such with hints where few are. */
+    private static void toldSignatures(int kind) {
+        byte[][] keys = dsaKeys(kind);
         for (String line : lines) {
             String[] w = line.split(" ");
-            if (w[0].equals("far") && Integer.parseInt(w[1]) == kind) {
+            if (w.length < 3 || !w[1].equals(String.valueOf(kind))) {
+                continue;
+            }
+            int number = w[0].equals("far") || w[0].equals("hint") || w[0].equals("context") ? Integer.parseInt(w[2]) : 0;
+            if (w[0].equals("far")) {
                 T.told("FIPS 204: z reaches its bound");
-                T.leaves(0, "latticeVerify", kind, open, little(Integer.parseInt(w[2]), 2), "", w[3]);
+                T.leaves(0, "latticeVerify", kind, keys[0], little(number, 2), "", w[3]);
+            } else if (w[0].equals("hint")) {
+                T.told("FIPS 204: a hint where the low part is 0 or 1");
+                T.leaves(1, "latticeVerify", kind, keys[0], little(number, 3), "", w[3]);
+            } else if (w[0].equals("context")) {
+                T.told("signing (pure) with a context");
+                String s = T.made(SIGNATURE[kind], "latticeSign", kind, keys[1], some(70, 2), some(number, 1), some(32, 3));
+                Check.due(line.substring(0, 13), sum(Check.bytes(s)), w[3]);
             }
         }
+    }
+
+    /** What one object has sealed or signed opens and is verified in a new one, which has no other numbers at hand. */
+    private static void newObjects(int kind) {
+        byte[][] kem = kemKeys(kind);
+        byte[][] sealed = two(CAPSULE[kind], 32, "capsule", kind, kem[0], some(32, 8));
+        byte[][] keys = dsaKeys(kind);
+        String s = T.made(SIGNATURE[kind], "latticeSign", kind, keys[1], "61", "62", some(32, 3));
+        Check.gives(new CryptHouse(), Check.hex(sealed[1]), "uncapsule", kind, kem[1], sealed[0]);
+        Check.due("capsule", Check.run(new CryptHouse(), "capsule", kind, kem[0], some(32, 8)), String.valueOf(CAPSULE[kind]));
+        Check.gives(new CryptHouse(), s, "latticeSign", kind, keys[1], "61", "62", some(32, 3));
+        Check.due("verify", Check.run(new CryptHouse(), "latticeVerify", kind, keys[0], "61", "62", s), "1");
+        Check.due("verify", Check.run(new CryptHouse(), "latticeVerify", kind, keys[0], "61", "", s), "0");
     }
 
     private static void edgeSignatures() {
@@ -370,10 +395,30 @@ public final class BoundsLatticesTest {
                 String s = T.made(SIGNATURE[kind], "latticeSign", kind, keys[1], x, "", new byte[32]);
                 Check.due(line, sum(Check.bytes(s)), w[4]);
                 T.leaves(1, "latticeVerify", kind, keys[0], x, "", s);
+                emptyHints(kind, keys[0], x, Check.bytes(s));
             } else if (w[0].equals("sample")) {
                 int kind = Integer.parseInt(w[1]);
                 byte[][] keys = two(OPEN[kind], SECRET[kind], "latticeKeys", kind, w[2]);
                 Check.due(line, sum(keys[0]) + sum(keys[1]), w[3] + w[4]);
+            }
+        }
+    }
+
+    /** Counts that may not be, of a polynomial that has no hints, so that no hint would change by them. */
+    private static void emptyHints(int kind, byte[] open, byte[] x, byte[] s) {
+        int counts = s.length - ROWS[kind];
+        for (int i = 0; i < ROWS[kind]; i++) {
+            int before = i == 0 ? 0 : s[counts + i - 1] & 255;
+            if ((s[counts + i] & 255) != before) {
+                continue;
+            }
+            for (int bad : new int[] {before - 1, before + 1, 0, OMEGA[kind] + 1, 255}) {
+                if (bad != before && bad >= 0) {
+                    T.leaves(1, "latticeVerify", kind, open, x, "", s);
+                    byte[] other = s.clone();
+                    other[counts + i] = (byte) bad;
+                    T.leaves(0, "latticeVerify", kind, open, x, "", other);
+                }
             }
         }
     }
@@ -394,6 +439,8 @@ public final class BoundsLatticesTest {
                     Check.due(line, sum(Check.bytes(s)), w[3]);
                 } else {
                     T.leaves(-3, "latticeSign", 0, slow, x, "", new byte[32]);
+                    T.leaves(-1, "latticeSign", 0, slow, x, "", new byte[31]);
+                    T.leaves(-1, "latticeSign", 0, slow, x, new byte[256], new byte[32]);
                 }
             }
         }

@@ -21,6 +21,7 @@ public final class BoundsProofsTest {
         bitScalars();
         bitChecks();
         bitsWithoutPoints();
+        newObjects();
         T.end();
         Check.end();
     }
@@ -350,5 +351,17 @@ public final class BoundsProofsTest {
         T.leaves(1, "checkBit", text(G), fixed(e0) + fixed(s0) + fixed(e.subtract(e0).mod(Q)) + fixed(s1));
         e = challenge(text(G), text(less(times(s0, H), times(e0, G))));
         T.leaves(0, "checkBit", text(G), fixed(e0) + fixed(s0) + fixed(e.subtract(e0).mod(Q)) + fixed(ZERO));
+    }
+
+    /** H is found by whichever call needs it first. */
+    private static void newObjects() {
+        BigInteger r = some();
+        BigInteger[] told = {some(), some(), some()};
+        String proof = bit(1, r, told[0], told[1], told[2]);
+        String c = text(plus(G, times(r, H)));
+        Check.gives(new CryptHouse(), c, "commit", fixed(ONE), fixed(r));
+        Check.gives(new CryptHouse(), proof, "proveBit", 1, fixed(r) + fixed(told[0]) + fixed(told[1]) + fixed(told[2]));
+        Check.due("checkBit", Check.run(new CryptHouse(), "checkBit", c, proof), "1");
+        Check.due("checkBit", Check.run(new CryptHouse(), "checkBit", text(G), proof), "0");
     }
 }

@@ -24,7 +24,7 @@ public final class BoundsRsaTest {
         moduli();
         exponents();
         hashes();
-        int[] bits = {505, 512, 513, 520, 521, 528, 529, 616, 617, 624, 625, 736, 744, 745, 752, 1001, 1024};
+        int[] bits = {505, 506, 507, 508, 509, 510, 511, 512, 513, 520, 521, 528, 529, 616, 617, 624, 625, 736, 744, 745, 752, 1001, 1002, 1024};
         for (int b : bits) {
             makeKey(b);
             oaep();
@@ -38,6 +38,8 @@ public final class BoundsRsaTest {
         pssForms();
         namedForms();
         notBelow();
+        order();
+        fullRows();
         T.end();
         Check.end();
     }
@@ -300,6 +302,9 @@ public final class BoundsRsaTest {
                 continue;
             }
             String label = hash(h, "6c");
+            String own = Check.hex(Examples.some(SIZES[h], 9));
+            T.gives(power(oaepText(h, "00", label + "00".repeat(rest - 4) + "01616263"), e), "rsa", 0, h, bytes(n), bytes(e), "616263", own + "6c");
+            T.gives(power(oaepText(h, "00", label + "01" + "61".repeat(rest - 1)), e), "rsa", 0, h, bytes(n), bytes(e), "61".repeat(rest - 1), own + "6c");
             opens(h, 1, oaepText(h, "00", label + "00".repeat(rest - 1) + "01"), "", "6c");
             opens(h, 1, oaepText(h, "00", label + "00".repeat(rest - 2) + "0100"), "00", "6c");
             opens(h, 1, oaepText(h, "00", label + "01" + "00".repeat(rest - 1)), "00".repeat(rest - 1), "6c");
@@ -357,9 +362,12 @@ public final class BoundsRsaTest {
 
     /** What PSS signs, of its parts: the bytes ahead of the salt, the salt, the hash's end and the last byte. */
     private static String pssText(int h, String x, String ahead, String salt, String last, int top) {
+        return pssText(h, hash(h, "00".repeat(8) + hash(h, x) + salt), ahead + salt, last, top);
+    }
+
+    private static String pssText(int h, String sum, String ahead, String last, int top) {
         int length = (n.bitLength() + 6) / 8;
-        String sum = hash(h, "00".repeat(8) + hash(h, x) + salt);
-        byte[] data = Check.bytes(mixed(ahead + salt, mask(h, sum, length - SIZES[h] - 1)));
+        byte[] data = Check.bytes(mixed(ahead, mask(h, sum, length - SIZES[h] - 1)));
         int least = 255 >> 8 * length - n.bitLength() + 1;
         data[0] = (byte) (data[0] & least | top);
         return "00".repeat(k - length) + Check.hex(data) + sum + last;
@@ -368,7 +376,7 @@ public final class BoundsRsaTest {
     /** "what does not .. fit: -3", of PSS: bytes ahead of the salt, the 1, the last byte, the bits above. */
     private static void pssForms() {
         T.told("what does not fit: -3");
-        for (int bits : new int[] {768, 769, 775}) {
+        for (int bits : new int[] {768, 769, 770, 772, 775}) {
             makeKey(bits);
             int length = (n.bitLength() + 6) / 8;
             for (int h = 0; h < 8; h += 2) {
@@ -384,6 +392,14 @@ public final class BoundsRsaTest {
                 };
                 for (String b : bad) {
                     T.leaves(-3, "rsa", 5, h, bytes(n), bytes(e), "61", "08" + power(b, d));
+                }
+                // The salt and all else in its place, but for one byte of the hash.
+                byte[] sum = Check.bytes(hash(h, "00".repeat(8) + hash(h, "61") + salt));
+                for (int at = 0; at < sum.length; at++) {
+                    sum[at] ^= 1;
+                    String other = pssText(h, Check.hex(sum), "00".repeat(zeros) + "01" + salt, "bc", 0);
+                    T.leaves(-3, "rsa", 5, h, bytes(n), bytes(e), "61", "08" + power(other, d));
+                    sum[at] ^= 1;
                 }
                 for (int bit = 0; bit < 8; bit++) {
                     // A bit above those that n has, in the first byte: what is signed is the same number otherwise.
@@ -444,6 +460,47 @@ public final class BoundsRsaTest {
                 T.gives(hash(0, "61"), "rsa", kind + 1, 0, bytes(n), bytes(e), "61", ahead + signed);
                 String same = fixed(new BigInteger(signed, 16).add(n), k);
                 T.leaves(-3, "rsa", kind + 1, 0, bytes(n), bytes(e), "61", ahead + same);
+            }
+        }
+    }
+
+    /** -1 ahead of -3: a number that is not below n, where n, e, a size or the hash may not be. */
+    private static void order() {
+        makeKey(576);
+        T.told("-1 ahead of -3");
+        String high = bytes(n);
+        for (int kind = 1; kind < 8; kind += 2) {
+            String x = kind > 4 ? "61" : high;
+            String more = kind == 5 ? "00" + high : kind == 7 ? high : "";
+            T.leaves(-3, "rsa", kind, 0, bytes(n), bytes(e), x, more);
+            T.leaves(-1, "rsa", kind, 0, bytes(n), "02", x, more);
+            T.leaves(-1, "rsa", kind, 0, bytes(n), bytes(n), x, more);
+            T.leaves(-1, "rsa", kind, 0, "ff".repeat(63), "03", x, more);
+            if (kind != 3) {
+                // 72 bytes are too few for SHA-512: OAEP needs 130, PSS (with a salt of 255) and DigestInfo 94.
+                String salted = kind == 5 ? "ff" + high : more;
+                T.leaves(-1, "rsa", kind, 4, bytes(n), bytes(e), x, salted);
+            }
+        }
+    }
+
+    /** Texts and labels that fill a row. */
+    private static void fullRows() {
+        makeKey(1024);
+        String full = Check.hex(Examples.some(8192, 1));
+        T.told("x the text");
+        for (int h = 0; h < 10; h++) {
+            for (int kind = 4; kind < 8; kind += 2) {
+                String y = T.made(k, "rsa", kind, h, bytes(n), bytes(d), full, "");
+                T.gives(hash(h, full), "rsa", kind + 1, h, bytes(n), bytes(e), full, (kind == 4 ? "00" : "") + y);
+                T.leaves(-3, "rsa", kind + 1, h, bytes(n), bytes(e), full.substring(2), (kind == 4 ? "00" : "") + y);
+            }
+            if (k >= 2 * SIZES[h] + 2) {
+                String label = full.substring(2 * SIZES[h]);
+                String y = T.made(k, "rsa", 0, h, bytes(n), bytes(e), "", full);
+                T.gives("", "rsa", 1, h, bytes(n), bytes(d), y, label);
+                T.leaves(-3, "rsa", 1, h, bytes(n), bytes(d), y, label.substring(2));
+                T.leaves(-3, "rsa", 1, h, bytes(n), bytes(d), y, full);
             }
         }
     }

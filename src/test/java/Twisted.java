@@ -129,13 +129,20 @@ final class Twisted {
 
     /** X25519 of 32 bytes each. */
     static String exchanged(String secret, String point) {
-        BigInteger k = number(secret).clearBit(0).clearBit(1).clearBit(2).clearBit(255).setBit(254);
-        BigInteger x1 = number(point).clearBit(255);
+        return little(ladder(clamped(secret), number(point).clearBit(255)));
+    }
+
+    static BigInteger clamped(String secret) {
+        return number(secret).clearBit(0).clearBit(1).clearBit(2).clearBit(255).setBit(254);
+    }
+
+    /** RFC 7748's ladder for any number; 0 for a point that is neutral. */
+    static BigInteger ladder(BigInteger k, BigInteger x1) {
         BigInteger x2 = BigInteger.ONE;
         BigInteger z2 = BigInteger.ZERO;
         BigInteger x3 = x1;
         BigInteger z3 = BigInteger.ONE;
-        for (int i = 254; i >= 0; i--) {
+        for (int i = 255; i >= 0; i--) {
             boolean swap = k.testBit(i);
             BigInteger a = (swap ? x3.add(z3) : x2.add(z2)).mod(P);
             BigInteger b = (swap ? x3.subtract(z3) : x2.subtract(z2)).mod(P);
@@ -156,6 +163,6 @@ final class Twisted {
             z3 = swap ? doubledZ : addedZ;
         }
         // The steps keep the pair in its place, whichever was the lower one.
-        return little(x2.multiply(z2.modPow(P.subtract(BigInteger.TWO), P)).mod(P));
+        return x2.multiply(z2.modPow(P.subtract(BigInteger.TWO), P)).mod(P);
     }
 }
