@@ -408,6 +408,9 @@ public final class BoundsCiphersTest {
             T.leaves(-3, "open", kind, key, some(12, 2), some(18, 3), Arrays.copyOf(y, 34));
             T.leaves(-3, "open", kind, key, some(12, 2), some(18, 3), Check.join(y, new byte[1]));
             T.leaves(-3, "open", kind, key, some(12, 2), some(18, 3), Check.join(new byte[1], y));
+            Check.gives(new CryptHouse(), Check.hex(some(19, 4)), "open", kind, key, some(12, 2), some(18, 3), y);
+            Check.gives(new CryptHouse(), Check.hex(y), "seal", kind, key, some(12, 2), some(18, 3), some(19, 4));
+            Check.refused(new CryptHouse(), "-3", "open", kind, key, some(12, 2), some(18, 3), new byte[35]);
             T.told("kind 2: the tag ahead");
             byte[] turned = Check.join(Arrays.copyOfRange(y, 19, 35), Arrays.copyOf(y, 19));
             T.leaves(-3, "open", kind, key, some(12, 2), some(18, 3), turned);

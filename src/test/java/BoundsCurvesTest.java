@@ -37,6 +37,7 @@ public final class BoundsCurvesTest {
             reusedLimits(curve);
         }
         schnorrLimits();
+        schnorrSigned();
         schnorrPoints();
         T.end();
         Check.end();
@@ -505,6 +506,36 @@ public final class BoundsCurvesTest {
             String signed = T.made(64, "sign", 4, 0, secret, x, Examples.some(32, n));
             T.leaves(1, "verify", 4, 0, key, x, signed);
             T.leaves(0, "verify", 4, 0, key, n == 0 ? "00" : x.substring(2), signed);
+        }
+    }
+
+    private static byte[] tagged(String tag, byte[]... parts) {
+        byte[] sum = Check.sha256(tag.getBytes());
+        return Check.sha256(sum, sum, Check.join(parts));
+    }
+
+    /** BIP 340's signing, as it is told there, with secrets and nonces whose points have an odd y, and such with an even one. */
+    private static void schnorrSigned() {
+        T.told("4 SCHNORR over curve 2 (BIP 340; more: 32 bytes of help ..)");
+        BigInteger q = Affine.Q[2];
+        for (int i = 0; i < 16; i++) {
+            BigInteger d = i < 2 ? i == 0 ? ONE : q.subtract(ONE) : some(2);
+            byte[] help = i == 2 ? new byte[32] : Examples.some(32, i);
+            byte[] x = Examples.some(i * i, i);
+            BigInteger[] point = Affine.times(2, d, Affine.G[2]);
+            BigInteger even = point[1].testBit(0) ? q.subtract(d) : d;
+            byte[] mixed = Check.bytes(fixed(even, 2));
+            byte[] mask = tagged("BIP0340/aux", help);
+            for (int k = 0; k < 32; k++) {
+                mixed[k] ^= mask[k];
+            }
+            String key = fixed(point[0], 2);
+            BigInteger k = new BigInteger(1, tagged("BIP0340/nonce", mixed, Check.bytes(key), x)).mod(q);
+            BigInteger[] r = Affine.times(2, k, Affine.G[2]);
+            k = r[1].testBit(0) ? q.subtract(k) : k;
+            BigInteger s = k.add(challenge(fixed(r[0], 2), key, Check.hex(x)).multiply(even)).mod(q);
+            T.gives(fixed(r[0], 2) + fixed(s, 2), "sign", 4, -1, fixed(d, 2), x, help);
+            T.leaves(1, "verify", 4, -1, key, x, fixed(r[0], 2) + fixed(s, 2));
         }
     }
 

@@ -1,4 +1,8 @@
+import java.math.BigInteger;
 import java.security.MessageDigest;
+import java.util.Random;
+import javax.crypto.Cipher;
+import javax.crypto.spec.SecretKeySpec;
 
 /** The boundary cases of promises 6 to 10: hashes, keyed sums, keys that are derived and stretched, sentence by sentence. */
 public final class BoundsHashesTest {
@@ -30,6 +34,8 @@ public final class BoundsHashesTest {
         hmacs();
         kmacs();
         keysOfSums();
+        poly1305();
+        cmacs();
         derived();
         stretched();
         scrypts();
@@ -271,6 +277,92 @@ public final class BoundsHashesTest {
         T.told("IllegalArgumentException for a kind");
         for (int kind : new int[] {-1, 16, LEAST, MOST}) {
             T.thrown("sum", kind, -1, "", "");
+        }
+    }
+
+    /** RFC 8439's sum as it is told there, with wide numbers. */
+    private static String poly(String key, String x) {
+        BigInteger p = BigInteger.TWO.pow(130).subtract(BigInteger.valueOf(5));
+        BigInteger r = Twisted.number(key.substring(0, 32)).and(new BigInteger("0ffffffc0ffffffc0ffffffc0fffffff", 16));
+        BigInteger sum = BigInteger.ZERO;
+        for (int at = 0; at < x.length(); at += 32) {
+            String part = x.substring(at, Math.min(x.length(), at + 32)) + "01";
+            sum = sum.add(Twisted.number(part)).multiply(r).mod(p);
+        }
+        return Twisted.little(sum.add(Twisted.number(key.substring(32)))).substring(0, 32);
+    }
+
+    /** "15 POLY1305 (RFC 8439; the key has 32 bytes)": sums about 2^130 - 5 and about 2^128, texts of all sizes. */
+    private static void poly1305() {
+        T.told("15 POLY1305 (RFC 8439)");
+        Random random = new Random(14);
+        String[] keys = {
+            "00".repeat(32), "01" + "00".repeat(31), "02" + "00".repeat(31), "01" + "00".repeat(15) + "ff".repeat(16), "02" + "00".repeat(15) + "ff".repeat(16),
+            "ff".repeat(32), "ff".repeat(16) + "00".repeat(16), "fffffffffcffffff0fcffffff0fcffff".substring(0, 32) + "01".repeat(16),
+            "0100000000000000" + "04" + "00".repeat(23), Check.hex(Examples.some(32, 1))
+        };
+        String[] blocks = {
+            "ff".repeat(16), "00".repeat(16), "fb" + "ff".repeat(15), "fc" + "ff".repeat(15), "fa" + "ff".repeat(15), "fbfefefefefefefefefefefefefefefe",
+            "f0" + "ff".repeat(15), "11" + "00".repeat(15), "01".repeat(16), "02" + "00".repeat(15), "fd" + "ff".repeat(15), "fe" + "ff".repeat(15),
+            "e33594d7505e43b9" + "00".repeat(8), "3394d7505e4379cd01" + "00".repeat(7), "04" + "00".repeat(15), "05" + "00".repeat(15)
+        };
+        for (String key : keys) {
+            for (String a : blocks) {
+                for (String b : blocks) {
+                    T.gives(poly(key, a + b), "sum", 15, -1, key, a + b);
+                    String c = blocks[random.nextInt(blocks.length)] + blocks[random.nextInt(blocks.length)];
+                    T.gives(poly(key, a + b + c), "sum", 15, -1, key, a + b + c);
+                }
+                T.gives(poly(key, a), "sum", 15, -1, key, a);
+            }
+            for (int n = 0; n <= 66; n++) {
+                String x = (n % 2 == 0 ? "ff" : "00").repeat(n);
+                T.gives(poly(key, x), "sum", 15, -1, key, x);
+            }
+            // With r 1 the sum is the blocks' own: four of them, and what is left to 2^130 - 5.
+            for (int v = 0; v < 12; v++) {
+                String x = "ff".repeat(48) + String.format("%02x", 0xf8 + v & 255) + (v < 8 ? "ff" : "00").repeat(v < 8 ? 15 : 14) + (v < 8 ? "" : "01");
+                T.gives(poly(key, x), "sum", 15, -1, key, x);
+                T.gives(poly(key, x + "ff".repeat(16)), "sum", 15, -1, key, x + "ff".repeat(16));
+            }
+        }
+        String full = Check.hex(Examples.some(8192, 3));
+        T.gives(poly(keys[9], full), "sum", 15, -1, keys[9], full);
+        T.gives(poly(keys[5], "ff".repeat(8192)), "sum", 15, -1, keys[5], "ff".repeat(8192));
+    }
+
+    private static byte[] doubled(byte[] a) {
+        BigInteger v = new BigInteger(1, a).shiftLeft(1);
+        v = v.testBit(128) ? v.clearBit(128).xor(BigInteger.valueOf(0x87)) : v;
+        return Check.bytes(String.format("%032x", v));
+    }
+
+    /** "14 CMAC (SP 800-38B) with AES": texts that end with a whole block, and such that do not; none. */
+    private static void cmacs() throws Exception {
+        T.told("14 CMAC (SP 800-38B) with AES");
+        for (int size : new int[] {16, 24, 32}) {
+            for (int i = 0; i <= 50; i++) {
+                int n = i < 50 ? i : 8192;
+                byte[] key = Examples.some(size, i);
+                byte[] x = Examples.some(n, size);
+                Cipher c = Cipher.getInstance("AES/ECB/NoPadding");
+                c.init(Cipher.ENCRYPT_MODE, new SecretKeySpec(key, "AES"));
+                byte[] last = doubled(c.doFinal(new byte[16]));
+                boolean whole = n > 0 && n % 16 == 0;
+                byte[] padded = whole ? x : java.util.Arrays.copyOf(x, n / 16 * 16 + 16);
+                if (!whole) {
+                    last = doubled(last);
+                    padded[n] = (byte) 128;
+                }
+                byte[] chain = new byte[16];
+                for (int at = 0; at < padded.length; at += 16) {
+                    for (int k = 0; k < 16; k++) {
+                        chain[k] ^= padded[at + k] ^ (at + 16 == padded.length ? last[k] : 0);
+                    }
+                    chain = c.doFinal(chain);
+                }
+                T.gives(Check.hex(chain), "sum", 14, ODD[i % ODD.length], key, x);
+            }
         }
     }
 

@@ -26,6 +26,7 @@ public final class BoundsNumbersTest {
         refusals();
         small();
         wide();
+        divisions();
         roots();
         takenRoots();
         primesByBases();
@@ -270,6 +271,33 @@ public final class BoundsNumbersTest {
                 one(op, a, sum.subtract(a), a);
                 one(op, a, b, sum.add(ONE));
                 one(op, a, b, sum.subtract(ONE));
+            }
+        }
+    }
+
+    /** Numbers of extreme digits, for which a digit of a quotient is guessed too great, once or twice. */
+    private static void divisions() {
+        long[] digits = {0, 1, 2, (1 << 27) - 1, 1 << 27, (1 << 27) + 1, (1 << 28) - 2, (1 << 28) - 1};
+        int[] ops = {3, 4, 7, 8, 9, 10};
+        Random random = new Random(44);
+        for (int i = 0; i < 25000; i++) {
+            BigInteger[] v = {ZERO, ZERO, ZERO};
+            for (int k = 0; k < 3; k++) {
+                int many = k == 0 ? 1 + random.nextInt(i % 8 == 0 ? 36 : 5) : 1 + random.nextInt(i % 8 == 0 ? 18 : 3);
+                for (int d = 0; d < many; d++) {
+                    v[k] = v[k].shiftLeft(28).add(BigInteger.valueOf(digits[random.nextInt(digits.length)]));
+                }
+                // The digits' ends may lie anywhere in the number.
+                v[k] = i % 3 == 0 ? v[k].shiftRight(random.nextInt(28)) : v[k];
+            }
+            int op = ops[random.nextInt(ops.length)];
+            BigInteger b = op == 8 ? v[1].mod(BigInteger.valueOf(1000)) : v[1];
+            one(op, v[0], b, v[2]);
+            // A product and a number less than the divisor: all but the rest divides.
+            BigInteger u = v[1].multiply(v[2]).add(v[1].signum() == 0 ? ZERO : v[0].mod(v[1]));
+            if (u.bitLength() <= 1024) {
+                one(3, u, v[1], ZERO);
+                one(4, u.subtract(ONE).max(ZERO), v[1], ZERO);
             }
         }
     }
