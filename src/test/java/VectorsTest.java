@@ -3,21 +3,28 @@ import java.nio.file.Path;
 import java.util.ArrayList;
 import java.util.List;
 
-/** Every call of src/test/vectors.txt, promises 6 to 32. */
+/** Every call of src/test/vectors.txt and src/test/third.txt, or of the files that are told; promises 6 to 32. */
 public final class VectorsTest {
     public static void main(String[] args) throws Exception {
-        CryptHouse h = new CryptHouse();
-        int line = 0;
-        for (String s : Files.readAllLines(Path.of("src/test/vectors.txt"))) {
-            line++;
-            if (!s.startsWith("#")) {
-                one(h, line, s.split(" "));
-            }
+        String[] own = {"src/test/vectors.txt", "src/test/third.txt"};
+        for (String file : args.length > 0 ? args : own) {
+            all(file);
         }
         Check.end();
     }
 
-    private static void one(CryptHouse h, int line, String[] words) {
+    private static void all(String file) throws Exception {
+        CryptHouse h = new CryptHouse();
+        int line = 0;
+        for (String s : Files.readAllLines(Path.of(file))) {
+            line++;
+            if (!s.startsWith("#")) {
+                one(h, file + " line " + line, s.split(" "));
+            }
+        }
+    }
+
+    private static void one(CryptHouse h, String line, String[] words) {
         List<Object> given = new ArrayList<>();
         int at = 1;
         for (; !words[at].equals("="); at++) {
@@ -28,7 +35,7 @@ public final class VectorsTest {
         for (int i = 0; i < writes; i++) {
             Check.row(h, Check.TO - i, mark);
         }
-        String name = "line " + line + ": " + words[0];
+        String name = line + ": " + words[0];
         Check.due(name, Check.run(h, words[0], given.toArray()), words[at + 1]);
         for (int i = 0; i < writes; i++) {
             byte[] got = Check.get(h, Check.TO - writes + 1 + i);
